@@ -158,7 +158,7 @@ public final class StripInFiveSteps {
         if (!isSecond(v)) return refuseLong(NOBODY);
         if (!isPart(part)) return refuseLong(OTHER);
         strips.take(now, now.stripKind);
-        return fraction(strips.meanOf(v, now), now.weightOf(now.left()), part);
+        return fraction(strips.meanOf(v, now, now.left()), now.weightOf(now.left()), part);
     }
 
     public int best(int by) {
@@ -174,7 +174,7 @@ public final class StripInFiveSteps {
         if (left == 0) return refuseLong(STATE);
         strips.take(now, now.stripKind);
         int v = strips.bestBy(by, now, left);
-        if (by == BY_MEAN) return fraction(strips.meanOf(v, now), now.weightOf(left), part);
+        if (by == BY_MEAN) return fraction(strips.meanOf(v, now, left), now.weightOf(left), part);
         return fraction(by == BY_PARTS ? strips.partsOf(v, left) : strips.worstOf(v, left), 1, part);
     }
 
@@ -726,8 +726,7 @@ public final class StripInFiveSteps {
         }
 
         /** MEAN, times all WEIGHT. */
-        long meanOf(int v, Shed shed) {
-            long left = shed.left();
+        long meanOf(int v, Shed shed, long left) {
             long mean = 0;
             for (int k = 0; k < TOLD_BANDS; k++) {
                 long part = toldOf(v, k) & left;
@@ -751,7 +750,7 @@ public final class StripInFiveSteps {
 
         private long measured(int by, int v, Shed shed, long left) {
             switch (by) {
-                case BY_MEAN: return meanOf(v, shed);
+                case BY_MEAN: return meanOf(v, shed, left);
                 case BY_PARTS: return -partsOf(v, left);
                 default: return worstOf(v, left);
             }

@@ -323,6 +323,13 @@ public final class PromisesTest {
         due("another FIGURE", x.worst(10), 26);
         x.kind(1, 1);
         due("WET", x.worst(10), 31);
+        x.set(2, 4);
+        due("another FIGURE", x.worst(10), 30);
+        x.image();
+        x.set(1, 1);
+        x.worst(10);
+        x.on();
+        due("ON from the IMAGE", x.worst(10), 30);
     }
 
     private static void mean() {
@@ -351,6 +358,8 @@ public final class PromisesTest {
         due("by WORST LIKELY does not matter", weighty.best(0), 16);
         due("on the MEAN it does", weighty.best(1), 3);
         due("one LEFT", after("l01400;l20201;").best(0), 1);
+        due("the first but one", after("b2;l01400;l03041;").best(0), 2);
+        due("the last", after("b2;ew9;l01400;l32331;").best(0), 40);
         for (int by : new int[] {-1, 3, LOW, HIGH}) {
             due("best(" + by + ")", x.best(by), -2);
             due("best(" + by + ") with none LEFT", withNoneLeft().best(by), -2);
@@ -390,7 +399,7 @@ public final class PromisesTest {
         promise = 17;
         due("give()", new StripInFiveSteps().give(), 20);
         due("by LIKELY", after("l40409;").give(), 24);
-        due("one LEFT", after("l01400;l33331;").give(), 33);
+        for (int r = 1; r <= 40; r++) due("one LEFT", after(String.format("l01400;l%02d%02d1;", r, r)).give(), r);
         due("of several the least", after("l01400;l10101;l30301;").give(), 10);
         due("without FAULT", after("p0500;").give(), 1);
         due("none LEFT", withNoneLeft().give(), -3);
@@ -503,6 +512,8 @@ public final class PromisesTest {
             for (int what = 0; what < 3; what++) due("rule", x.rule(one[0], one[1], what), one[2 + what]);
         }
         due("CAREFUL", after("ec1;").rule(10, 8, 0), 29);
+        due("the last alone", after("l01390;").rule(1, 4, 1), 40);
+        due("the first alone", after("l02400;").rule(1, 0, 2), 1);
         int[][] nobodies = {{0, 0, 3}, {41, 0, 0}, {1, -1, 3}, {1, 5, 0}, {1, 7, 0}, {1, 9, 0}, {1, LOW, 0}, {HIGH, 0, 0}};
         for (int[] one : nobodies) due("rule", x.rule(one[0], one[1], one[2]), -1);
         due("rule(1, 0, 3)", x.rule(1, 0, 3), -2);
@@ -544,6 +555,8 @@ public final class PromisesTest {
         due("by all FIGURES of an EYE", x.whose(1), 1023);
         withRow(x, 10, 12, 1);
         due("two of them", x.whose(0), 7);
+        withRow(x, 10, 14, 2);
+        due("three of them", x.whose(0), 7);
         withRow(x, 10, 9, 8);
         due("not all so", x.whose(0), 0);
         due("8", withRow(new StripInFiveSteps(), 10, 11, 8).whose(0), 16);
@@ -564,6 +577,10 @@ public final class PromisesTest {
 
     private static void limit() {
         promise = 27;
+        for (int r = 1; r <= 40; r++) {
+            StripInFiveSteps one = after(String.format("l01400;l%02d%02d1;", r, r));
+            for (int what = 0; what < 3; what++) due("one LEFT", one.limit(what), r);
+        }
         int[][] dues = {{1, 40, 20}, {11, 40, 25}, {7, 7, 7}, {1, 40, 24}, {3, 9, 3}, {-9, -9, -9}};
         String[] texts = {"b5;", "l01100;", "l01400;l07073;", "l40409;", "l01400;l03032;l09092;", "l01400;"};
         for (int i = 0; i < texts.length; i++) {
